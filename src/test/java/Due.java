@@ -1,0 +1,33 @@
+/** Compares answers with those that are due, and tells at the end whether one was wrong. */
+final class Due {
+    private final String test;
+    private int asked = 0;
+    private int wrong = 0;
+
+    Due(String test) {
+        this.test = test;
+    }
+
+    void is(String what, long got, long due) {
+        asked++;
+        if (got != due) {
+            wrong++;
+            System.out.println(what + ": answered " + got + ", due is " + due);
+        }
+    }
+
+    void holds(String what, boolean got) {
+        is(what, got ? 1 : 0, 1);
+    }
+
+    void fails(String what, boolean got) {
+        is(what, got ? 1 : 0, 0);
+    }
+
+    void end() {
+        System.out.println(test + ": " + asked + " answers, " + wrong + " wrong");
+        if (wrong != 0) {
+            System.exit(1);
+        }
+    }
+}
