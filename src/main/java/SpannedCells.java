@@ -254,8 +254,6 @@ public final class SpannedCells {
         private int begunInGroup = 0;
         private int rowsEnd = 0;
         private int columnsEnd = 0;
-        /** Where the latest cell of the latest row ended. */
-        private int rowFilled = 0;
 
         void empty() {
             cells.clear();
@@ -264,7 +262,6 @@ public final class SpannedCells {
             begunInGroup = 0;
             rowsEnd = 0;
             columnsEnd = 0;
-            rowFilled = 0;
         }
 
         int beginGroup() {
@@ -283,7 +280,6 @@ public final class SpannedCells {
                 return NONE;
             }
             begunInGroup++;
-            rowFilled = 0;
             extendGroupTo(y + 1);
             return y;
         }
@@ -298,14 +294,14 @@ public final class SpannedCells {
                 return NONE;
             }
             cells.add(new Cell(x, y, columns, rows, least, most, need));
-            rowFilled = x + columns;
             columnsEnd = Math.max(columnsEnd, x + columns);
             extendGroupTo(y + rows);
             return cells.size() - 1;
         }
 
+        /** Up to where the row's latest cell ended no slot is free, so the search may begin at column 0. */
         private int firstFreeColumn(int y) {
-            for (int x = rowFilled; x < MOST_LINES; x++) {
+            for (int x = 0; x < MOST_LINES; x++) {
                 if (ownerOf(x, y) == NONE) {
                     return x;
                 }

@@ -21,11 +21,13 @@ public final class MeasuresTest {
         fixedTakesGapsOff();
         fixedWithoutCellsInRowZero();
         fixedWidthOfZeroIsAWidth();
+        fixedForgetsTheOtherWay();
         fixedLeavesMeasuresAlone();
         heightsOfSingleRows();
         heightsOfSpannedRows();
         heightsOfALongGrowingCell();
         lowCellsGoFirst();
+        equallyLowCellsGoByNumber();
         highRefusesOtherRows();
         placesWithGaps();
         placeRefusesOthers();
@@ -218,6 +220,8 @@ public final class MeasuresTest {
         askWidths("less with gaps", t, 2, 10, 20, 20, 20, 19);
         t.layout(29, 0, true);
         askWidths("no room", t, 2, 10, 20, 0, 0, 0);
+        t.layout(0, 0, true);
+        askWidths("far less than the widths given", t, 2, 10, 20, 0, 0, 0);
         t.layout(101, 0, false);
         askWidths("not fixed", t, 2, 500, 500, 167, 167, 166);
     }
@@ -232,6 +236,8 @@ public final class MeasuresTest {
         t.layout(500, 5, true);
         askWidths("at least 0", t, 2, 7, 7, 6, 0, 0);
         DUE.is("the table does not fill the space", t.size(false), 50);
+        t.layout(500, 20, true);
+        askWidths("gaps far greater than the cells", t, 2, 0, 0, 0, 0, 0);
     }
 
     private static void fixedWithoutCellsInRowZero() {
@@ -249,6 +255,20 @@ public final class MeasuresTest {
         t.cell(2, 1, 30, 30, 0);
         t.layout(20, 0, true);
         askWidths("only the second one has none", t, 2, 0, 20);
+    }
+
+    private static void fixedForgetsTheOtherWay() {
+        SpannedCells t = new SpannedCells();
+        t.row();
+        t.row();
+        t.cell(1, 1, 0, 10, 0);
+        t.cell(1, 1, 0, 30, 0);
+        t.layout(20, 0, false);
+        askWidths("shared by what the most widths are more", t, 2, 5, 15);
+        t.layout(20, 0, true);
+        askWidths("shared with equal weights", t, 2, 10, 10);
+        t.layout(20, 0, false);
+        askWidths("and again", t, 2, 5, 15);
     }
 
     private static void fixedLeavesMeasuresAlone() {
@@ -311,6 +331,16 @@ public final class MeasuresTest {
         t.row();
         t.row();
         askHeights("two before three", t, 15, 15, 0);
+    }
+
+    private static void equallyLowCellsGoByNumber() {
+        SpannedCells t = new SpannedCells();
+        t.row();
+        t.cell(1, 2, 0, 0, 10);
+        t.row();
+        t.cell(1, 2, 0, 0, 40);
+        // by the first 5, 5; then 35 more all in row 1, as row 2 has no height
+        askHeights("by number", t, 5, 40, 0);
     }
 
     private static void highRefusesOtherRows() {

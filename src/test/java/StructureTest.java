@@ -24,6 +24,7 @@ public final class StructureTest {
         growingCellEndsWithItsGroup();
         growingCellsMayBeginLate();
         clearEmptiesTheTable();
+        clearBeginsTheRowsAgain();
         clearKeepsTheLayout();
         clearTakesBordersAway();
         columnsAndRowsAreCounted();
@@ -328,6 +329,17 @@ public final class StructureTest {
         DUE.is("rows begin at 0", t.row(), 0);
         DUE.is("cells begin at 0", plain(t, 1, 1), 0);
         DUE.is("columns begin at 0", t.span(0), 1010000);
+    }
+
+    private static void clearBeginsTheRowsAgain() {
+        SpannedCells t = rowsBegun(3);
+        t.group();
+        t.row();
+        t.clear();
+        DUE.is("row 0 of the one group", t.row(), 0);
+        plain(t, 1, 0);
+        t.row();
+        DUE.is("a growing cell of it", t.span(0), 2010000);
     }
 
     private static void clearKeepsTheLayout() {
