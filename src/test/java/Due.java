@@ -1,6 +1,7 @@
 /** Compares answers with those that are due, and tells at the end whether one was wrong. */
 final class Due {
     private final String test;
+    private String sentence = "";
     private int asked = 0;
     private int wrong = 0;
 
@@ -8,11 +9,16 @@ final class Due {
         this.test = test;
     }
 
+    /** The sentence of the document that the next answers are due by, to be told with a wrong one. */
+    void by(String sentence) {
+        this.sentence = "[" + sentence + "] ";
+    }
+
     void is(String what, long got, long due) {
         asked++;
         if (got != due) {
             wrong++;
-            System.out.println(what + ": answered " + got + ", due is " + due);
+            System.out.println(sentence + what + ": answered " + got + ", due is " + due);
         }
     }
 
